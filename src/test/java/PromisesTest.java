@@ -456,7 +456,6 @@ public final class PromisesTest {
     far.lay(0);
     due("17 last corner", far.turn(54), 1);
     ParquetLayer amid = rows(63, 63);
-    amid.lay(0);
     amid.stone(1, 0, false, 0);
     amid.lay(0);
     due("17 beside what is glued", amid.turn(2), amid.rank());
@@ -713,7 +712,6 @@ public final class PromisesTest {
     p.stone(1, 0, false, 0);
     due("28 TWICE", p.planks(1), TWICE);
     due("28 unchanged", p.floor(0), 10);
-    p.lay(0);
     ParquetLayer e = rows(0, 126, 126, 126, 0);
     e.stone(3, 17, false, 0);
     e.sheet(0, 8, 4);
@@ -723,7 +721,6 @@ public final class PromisesTest {
     due("28 TWICE ahead of KIND", e.planks(0), TWICE);
     e.put(0, 2, 254);
     due("28 EDGE again", e.planks(0), 31);
-    e.lay(0);
     ParquetLayer h = rows(3, 3);
     h.lay(1);
     h.sheet(0, 16, 2);

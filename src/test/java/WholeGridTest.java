@@ -88,8 +88,8 @@ public final class WholeGridTest {
     Random random = new Random(6);
     int total = p.count();
     for (int i = 0; i < 12; i++) {
-      int a = i == 0 ? p.extreme(false) : random.nextInt(total);
-      int b = i == 0 ? p.extreme(true) : random.nextInt(total);
+      int a = i < 4 ? p.extreme(i % 2 == 0) : random.nextInt(total);
+      int b = i < 2 ? p.extreme(i % 2 != 0) : random.nextInt(total);
       int far = p.apart(a, b);
       DUE.is("apart from both sides", p.apart(b, a), far);
       int now = a;
