@@ -85,7 +85,7 @@ final class FloorSentences extends Sentences {
     says(ROW_TWICE);
     for (int kind = 0; kind < 4; kind++) {
       int told = kind;
-      int colour = kind == 2 ? 1 : 0;
+      int colour = colourOf(kind);
       Made along = () -> {
         ParquetLayer p = floor(15, 15);
         p.stone(told, 1, ALONG, colour);
@@ -150,7 +150,7 @@ final class FloorSentences extends Sentences {
     for (int kind = 0; kind < 3; kind++) {
       ParquetLayer p = floor(0, 255, 0, 255);
       p.row(2, 60);
-      p.stone(kind, 18, ALONG, kind == 2 ? 9 : 0);
+      p.stone(kind, 18, ALONG, colourOf(kind));
       is("row(2, 255)", p.row(2, 255), 24);
     }
   }

@@ -7,11 +7,6 @@ final class HeightsSentences extends Sentences {
 
   HeightsSentences(Due due) { super(due); }
 
-  private static ParquetLayer laid(ParquetLayer p, int number) {
-    p.lay(number);
-    return p;
-  }
-
   /** Floors that are not WHOLE: of no FIELDS, in two pieces, with a hole, GLUED, INLAID. */
   private static Made[] notWhole() {
     return new Made[] {
@@ -27,11 +22,9 @@ final class HeightsSentences extends Sentences {
 
   private static ParquetLayer glued(int kind) {
     ParquetLayer p = floor(15, 15);
-    p.stone(kind, 0, ALONG, kind == 2 ? 8 : 0);
+    p.stone(kind, 0, ALONG, colourOf(kind));
     return p;
   }
-
-  private static ParquetLayer withoutHand() { return floor(15, 15, 15); }
 
   private static ParquetLayer noLaying() { return floor(7, 7, 7); }
 
@@ -68,8 +61,8 @@ final class HeightsSentences extends Sentences {
 
   void promise18_noneInHand() {
     says(NO_POINT);
-    refused("height(0, 0)", HeightsSentences::withoutHand, p -> p.height(0, 0), NONE);
-    refused("height(9, 9)", HeightsSentences::withoutHand, p -> p.height(9, 9), NONE);
+    refused("height(0, 0)", Sentences::withoutHand, p -> p.height(0, 0), NONE);
+    refused("height(9, 9)", Sentences::withoutHand, p -> p.height(9, 9), NONE);
     refused("of no LAYING", HeightsSentences::noLaying, p -> p.height(0, 0), NONE);
   }
 

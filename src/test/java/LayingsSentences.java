@@ -18,8 +18,6 @@ final class LayingsSentences extends Sentences {
     return p;
   }
 
-  private static ParquetLayer withoutHand() { return floor(15, 15, 15); }
-
   void promise09_noFields() {
     says(COUNT);
     askedOnly("count()", ParquetLayer::new, ParquetLayer::count, 1);
@@ -209,7 +207,7 @@ final class LayingsSentences extends Sentences {
   void promise13_noneInHand() {
     says("NONE: there is none IN HAND, or it is the last one.");
     refused("at first", ParquetLayer::new, ParquetLayer::next, NONE);
-    refused("on a floor", LayingsSentences::withoutHand, ParquetLayer::next, NONE);
+    refused("on a floor", Sentences::withoutHand, ParquetLayer::next, NONE);
     refused("of no LAYING", LayingsSentences::oddFloor, ParquetLayer::next, NONE);
   }
 
@@ -220,11 +218,6 @@ final class LayingsSentences extends Sentences {
     refused("of no FIELDS", () -> laid(new ParquetLayer(), 0), ParquetLayer::next, NONE);
     refused("of the grid", () -> laid(wholeGrid(), 12988815), ParquetLayer::next, NONE);
     is("the one ahead of it", laid(wholeGrid(), 12988814).next(), 12988815);
-  }
-
-  private static ParquetLayer laid(ParquetLayer p, int number) {
-    p.lay(number);
-    return p;
   }
 
   /** A DRAW without Java's wrapping: all in numbers without bounds. */
@@ -307,7 +300,7 @@ final class LayingsSentences extends Sentences {
     says("The FIELD that is covered by the same stone as this one, in THE LAYING IN HAND.");
     ParquetLayer p = told();
     int[][] pairs = {{0, 1}, {26, 27}};
-    for (int n = 0; n < p.count(); n += 3) {
+    for (int n = 0; n < few(p.count()); n += 3) {
       p.lay(n);
       for (int[] pair : pairs) {
         is("first", p.partner(pair[0]), pair[1]);
@@ -320,14 +313,14 @@ final class LayingsSentences extends Sentences {
     says("BEYOND: no such FIELD.");
     for (int f : new int[] {-1, 64, MIN, MAX}) {
       refused("partner(" + f + ")", Sentences::plain, p -> p.partner(f), BEYOND);
-      refused("partner(" + f + ") without a hand", LayingsSentences::withoutHand, p -> p.partner(f), BEYOND);
+      refused("partner(" + f + ") without a hand", Sentences::withoutHand, p -> p.partner(f), BEYOND);
     }
   }
 
   void promise15_noneInHand() {
     says("NONE: there is none IN HAND, or it is not of THE FLOOR.");
-    refused("of the floor", LayingsSentences::withoutHand, p -> p.partner(0), NONE);
-    refused("not of the floor", LayingsSentences::withoutHand, p -> p.partner(63), NONE);
+    refused("of the floor", Sentences::withoutHand, p -> p.partner(0), NONE);
+    refused("not of the floor", Sentences::withoutHand, p -> p.partner(63), NONE);
   }
 
   void promise15_notOfTheFloor() {
@@ -363,7 +356,7 @@ final class LayingsSentences extends Sentences {
     says("How many TURNS there are.");
     for (int kind = 1; kind <= 2; kind++) {
       ParquetLayer p = floor(15, 15);
-      p.stone(kind, 8, ALONG, kind == 2 ? 1 : 0);
+      p.stone(kind, 8, ALONG, colourOf(kind));
       p.lay(0);
       is("one GLUED", p.turns(), 1);
       p.stone(1, 10, ALONG, 0);
@@ -380,7 +373,7 @@ final class LayingsSentences extends Sentences {
   void promise16_noneInHand() {
     says("NONE: there is no LAYING IN HAND.");
     refused("at first", ParquetLayer::new, ParquetLayer::turns, NONE);
-    refused("on a floor", LayingsSentences::withoutHand, ParquetLayer::turns, NONE);
+    refused("on a floor", Sentences::withoutHand, ParquetLayer::turns, NONE);
   }
 
   void promise17_thereAndBack() {
@@ -414,7 +407,7 @@ final class LayingsSentences extends Sentences {
     says(TURN_BEYOND);
     for (int f : new int[] {-1, -8, -9, 64, 72, MIN, MAX}) {
       refused("turn(" + f + ")", Sentences::plain, p -> p.turn(f), BEYOND);
-      refused("turn(" + f + ") without a hand", LayingsSentences::withoutHand, p -> p.turn(f), BEYOND);
+      refused("turn(" + f + ") without a hand", Sentences::withoutHand, p -> p.turn(f), BEYOND);
     }
   }
 
@@ -446,12 +439,12 @@ final class LayingsSentences extends Sentences {
         int told = kind;
         refused("ALONG at " + place, () -> {
           ParquetLayer p = floor(3, 3);
-          p.stone(told, place, ALONG, told == 2 ? 1 : 0);
+          p.stone(told, place, ALONG, colourOf(told));
           return laid(p, 0);
         }, p -> p.turn(0), NONE);
         refused("ACROSS at " + place / 8, () -> {
           ParquetLayer p = floor(3, 3);
-          p.stone(told, place / 8, ACROSS, told == 2 ? 1 : 0);
+          p.stone(told, place / 8, ACROSS, colourOf(told));
           return laid(p, 0);
         }, p -> p.turn(0), NONE);
       }

@@ -88,6 +88,19 @@ abstract class Sentences {
 
   static ParquetLayer wholeGrid() { return floor(255, 255, 255, 255, 255, 255, 255, 255); }
 
+  static ParquetLayer laid(ParquetLayer p, int number) {
+    p.lay(number);
+    return p;
+  }
+
+  /** A wrong COUNT must not make a test run for hours. */
+  static int few(int count) { return Math.min(count, 1000); }
+
+  /** A COLOUR that fits a kind. */
+  static int colourOf(int kind) { return kind == 2 ? 7 : 0; }
+
+  static ParquetLayer withoutHand() { return floor(15, 15, 15); }
+
   /** 3 rows of 4 FIELDS (11 LAYINGS), all sorts of sheets, a LAYING IN HAND, three acts to undo. */
   static ParquetLayer plain() {
     ParquetLayer p = floor(15, 15, 15);

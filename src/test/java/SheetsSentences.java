@@ -384,7 +384,7 @@ final class SheetsSentences extends Sentences {
           ParquetLayer p = sheetOf(8, rows);
           p.row(0, 15);
           p.row(1, 15);
-          p.stone(told, 1, ALONG, told == 2 ? 1 : 0);
+          p.stone(told, 1, ALONG, colourOf(told));
           p.lay(0);
           return p;
         }, p -> p.planks(0), TWICE);

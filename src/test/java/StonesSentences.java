@@ -11,8 +11,6 @@ final class StonesSentences extends Sentences {
 
   StonesSentences(Due due) { super(due); }
 
-  private static int colourOf(int kind) { return kind == 2 ? 7 : 0; }
-
   void promise05_numbersFrom0To19() {
     says("A STONE is told: its number.");
     ParquetLayer p = floor(255, 255, 255, 255, 255);

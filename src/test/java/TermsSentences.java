@@ -27,11 +27,6 @@ final class TermsSentences extends Sentences {
 
   TermsSentences(Due due) { super(due); }
 
-  private static ParquetLayer laid(ParquetLayer p, int number) {
-    p.lay(number);
-    return p;
-  }
-
   private static boolean dark(int x, int y) { return Math.floorMod(x + y, 2) == 0; }
 
   void terms0_the512thCall() {
@@ -177,7 +172,7 @@ final class TermsSentences extends Sentences {
     ParquetLayer p = floor(15, 15, 15, 15);
     p.stone(1, 0, ALONG, 0);
     p.stone(2, 19, ACROSS, 9);
-    int total = p.count();
+    int total = few(p.count());
     holds("there are some", total > 1);
     for (int n = 0; n < total; n++) {
       p.lay(n);
@@ -221,7 +216,7 @@ final class TermsSentences extends Sentences {
     int[][] floors = {{15, 15, 15}, {63, 63}, {7, 5, 7}, {6, 15, 15, 6}};
     for (int[] rows : floors) {
       ParquetLayer p = floor(rows);
-      int total = p.count();
+      int total = few(p.count());
       Set<String> seen = new HashSet<>();
       for (int n = 0; n < total; n++) {
         p = laid(floor(rows), n);
@@ -262,7 +257,7 @@ final class TermsSentences extends Sentences {
         + "that FIELD on, that with the stone ALONG is ahead.");
     int[][] floors = {{15, 15, 15}, {15, 15, 15, 15}, {255, 255}, {3, 3, 3, 3, 3, 3, 3, 3}};
     for (int[] rows : floors) {
-      int total = floor(rows).count();
+      int total = few(floor(rows).count());
       for (int n = 1; n < total; n++) {
         ParquetLayer ahead = laid(floor(rows), n - 1);
         ParquetLayer behind = laid(floor(rows), n);
@@ -430,7 +425,7 @@ final class TermsSentences extends Sentences {
     int[] want = {1, 0, 0, 1};
     for (int kind = 0; kind < 4; kind++) {
       ParquetLayer p = floor(15, 15);
-      p.stone(kind, 0, ALONG, kind == 2 ? 1 : 0);
+      p.stone(kind, 0, ALONG, colourOf(kind));
       is("with one of kind " + kind, p.floor(3), want[kind]);
       p.loose();
       is("without", p.floor(3), 1);
@@ -462,7 +457,7 @@ final class TermsSentences extends Sentences {
     int[][] floors = {{15, 15, 15}, {0, 0, 0, 0, 240, 240, 240, 240}, {6, 15, 15, 6}, {0, 28, 31, 31, 7}};
     for (int[] rows : floors) {
       ParquetLayer p = floor(rows);
-      int total = p.count();
+      int total = few(p.count());
       holds("there are some", total > 1);
       for (int n = 0; n < total; n++) edges(laid(floor(rows), n));
     }
@@ -475,7 +470,7 @@ final class TermsSentences extends Sentences {
       {0b11000000, 0b11000011, 0b11011011, 0b11111111, 0b11111111}, {0b000011, 0b110011, 0b111111, 0b011110},
     };
     for (int[] rows : floors) {
-      int total = floor(rows).count();
+      int total = few(floor(rows).count());
       holds("there are some", total > 0);
       is("WHOLE", floor(rows).floor(3), 1);
       for (int n = 0; n < total; n++) edges(laid(floor(rows), n));
@@ -580,7 +575,7 @@ final class TermsSentences extends Sentences {
     for (int[] rows : floors) {
       int[] low = heightsOf(floor(rows), floor(rows).extreme(false));
       int[] high = heightsOf(floor(rows), floor(rows).extreme(true));
-      int total = floor(rows).count();
+      int total = few(floor(rows).count());
       for (int n = 0; n < total; n++) {
         int[] heights = heightsOf(floor(rows), n);
         for (int i = 0; i < 81; i++) holds("between", low[i] <= heights[i] && heights[i] <= high[i]);
@@ -624,7 +619,7 @@ final class TermsSentences extends Sentences {
     }
     for (int kind = 0; kind < 4; kind++) {
       ParquetLayer p = floor(15);
-      p.stone(kind, 1, ALONG, kind == 2 ? 1 : 0);
+      p.stone(kind, 1, ALONG, colourOf(kind));
       is("with one of kind " + kind, p.lack(), 0);
     }
   }
