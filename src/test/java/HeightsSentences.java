@@ -200,6 +200,19 @@ final class HeightsSentences extends Sentences {
     is("there", p.rank(), 711201);
   }
 
+  void promise21_waysAllThrough() {
+    says("The FIELD of step i (from 0 on) of THE WAY from one LAYING to another one.");
+    for (int from : new int[] {6771437, 711201, 0}) {
+      for (int to = 1000003; to < 12988816; to += 1200007) {
+        ParquetLayer p = laid(wholeGrid(), from);
+        int far = p.apart(from, to);
+        for (int i = 0; i < far; i++) is("nearer", p.apart(p.turn(p.step(from, to, i)), to), far - i - 1);
+        is("there", p.rank(), to);
+        is("no further", p.step(from, to, far), NONE);
+      }
+    }
+  }
+
   void promise21_notWhole() {
     says("KIND.");
     for (Made made : notWhole()) {

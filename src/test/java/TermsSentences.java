@@ -549,7 +549,7 @@ final class TermsSentences extends Sentences {
       for (int b = 0; b < total; b++) {
         int now = a;
         int far = floor(rows).apart(a, b);
-        for (int i = 0; i < far; i++) {
+        for (int i = 0; i < far && i < 10; i++) {
           int field = leastThatHelps(floor(rows), now, b);
           is("step(" + a + ", " + b + ", " + i + ")", floor(rows).step(a, b, i), field);
           now = laid(floor(rows), now).turn(field);
